@@ -358,7 +358,17 @@ public final class ThatchLane {
             h = mixHouse(h, house);
         }
         if (now.size > 0) {
-            h = mixLane(h);
+            h = mix(h, wet(9));
+            h = mix(h, plan(2, 9, 0));
+            h = mix(h, plan(2, 9, 1));
+            h = mix(h, plan(2, 9, 10));
+            h = mix(h, plan(2, 9, 11));
+            h = mix(h, twos(0));
+            for (int what = 10; what <= 15; what++) {
+                h = mix(h, twos(what));
+            }
+            h = mix(h, patch(12, 9, 0));
+            h = mix(h, patch(12, 9, 1));
         }
         for (int place = 0; place < page.size; place++) {
             h = mix(h, page.codes.at(place));
@@ -378,20 +388,6 @@ public final class ThatchLane {
         h = mix(h, dry(house, 8));
         h = mix(h, odds(house, 4, 0));
         return mix(h, odds(house, 4, 1));
-    }
-
-    private long mixLane(long before) {
-        long h = mix(before, wet(9));
-        h = mix(h, plan(2, 9, 0));
-        h = mix(h, plan(2, 9, 1));
-        h = mix(h, plan(2, 9, 10));
-        h = mix(h, plan(2, 9, 11));
-        h = mix(h, twos(0));
-        for (int what = 10; what <= 15; what++) {
-            h = mix(h, twos(what));
-        }
-        h = mix(h, patch(12, 9, 0));
-        return mix(h, patch(12, 9, 1));
     }
 
     private static long mix(long h, long number) {
@@ -905,7 +901,6 @@ public final class ThatchLane {
 
         void search(Lane lane) {
             least = MOST_HOUSES * MOST_REED + 1;
-            best.fill(NONE);
             with.fill(NONE);
             for (int house = 0; house < lane.size; house++) {
                 with.put(house, FREE);

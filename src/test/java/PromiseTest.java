@@ -375,6 +375,14 @@ public final class PromiseTest {
         }
         c.due("11 9000 were wet", x.rain(1), FULL);
         c.due("11 they stay", x.count(6), 9000);
+        x = Checks.laneOf("w00,w00,w00,w00,w10");
+        for (int time = 1; time <= 1799; time++) {
+            c.due("11 five a time", x.rain(2), 5);
+        }
+        c.due("11 four then", x.rain(1), 4);
+        c.due("11 8999 were wet", x.count(6), 8999);
+        c.due("11 8999 are less", x.rain(1), 4);
+        c.due("11 9003 were wet", x.rain(1), FULL);
     }
 
     private static void cheer() {
@@ -521,6 +529,15 @@ public final class PromiseTest {
         c.due("16 no worry", x.plan(3, 20, 1), 3);
         c.due("16 no worry", x.plan(3, 20, 0), 1);
         c.due("16 by no rain", x.plan(3, 0, 0), 0);
+        // Six wet ones without any reed: all ways are alike, whatever was planned ahead of it.
+        x = Checks.laneOf("o10,o10,o10,o10,o10,o43");
+        c.due("16 the last", x.plan(1, 3, 10), 5);
+        for (int i = 0; i < 4; i++) {
+            x.year();
+        }
+        c.due("16 all bald, whom", x.plan(1, 20, 10), 0);
+        c.due("16 all bald, wet", x.plan(1, 20, 0), 6);
+        c.due("16 all bald, reed", x.plan(1, 20, 1), 0);
         planRefusals();
     }
 

@@ -2,7 +2,7 @@ import java.lang.management.ManagementFactory;
 
 /** All calls of a run live in one room: an object is small, and calls make next to nothing. */
 public final class RoomTest {
-    // 8 bytes an element, for 7.3 million of them, would be far more; the class needs but a small part of it.
+    // The room holds 7.3 million elements; a run has one object and 512 calls, so this is a small part of it.
     private static final long ROOM_OF_ONE = 32_000;
     private static final long ROOM_OF_CALLS = 100_000;
 
@@ -20,8 +20,9 @@ public final class RoomTest {
         x = Checks.laneOf("h93,w92,o91,y90,t99,h55");
         before = bean.getCurrentThreadAllocatedBytes();
         calls(x, 46);
-        made = bean.getCurrentThreadAllocatedBytes() - before;
-        c.holds("506 calls took " + made + " bytes", made <= ROOM_OF_CALLS);
+        long called = bean.getCurrentThreadAllocatedBytes() - before;
+        System.out.println("RoomTest: an object takes " + made + " bytes, 506 calls take " + called);
+        c.holds("506 calls took " + called + " bytes", called <= ROOM_OF_CALLS);
         c.end();
     }
 
