@@ -23,6 +23,7 @@ public final class LaneBoundsTest {
         laneDigits();
         laneKinds();
         anotherOneIsGone();
+        nothingIsLeftBeyondTheLast();
         sameTextAgain();
         c.end();
     }
@@ -288,6 +289,57 @@ public final class LaneBoundsTest {
         c.due("5 the sixth is as read", x.house(5, 2), 9);
         c.due("5 readings", x.count(9), 3);
         c.due("5 no kind of a seventh", x.as(6, 0), UNKNOWN);
+    }
+
+    /** Six that had most of all are read over by fewer: these are like those of a new object. */
+    private static void nothingIsLeftBeyondTheLast() {
+        String[] full = {"y:20:9", "w:20:9", "h:20:9", "t:20:9", "w:20:9", "w:20:9"};
+        for (int many = 1; many <= 6; many++) {
+            ThatchLane x = Scenes.inYear(7, full);
+            for (int house = 0; house <= 5; house++) {
+                x.comb(house);
+                x.see(house, 9, 20);
+            }
+            x.plan(4, 20, 0);
+            x.twos(0);
+            x.patch(20, 30, 0);
+            String text = SIX.substring(0, 4 * many - 1);
+            Checks.type(x, text);
+            x.lane();
+            ThatchLane y = Checks.laneOf(text);
+            c.due("5 behind six, as if new: digest() but for one reading more", x.digest(), y.digest() + 1);
+            for (int step = 0; step < 4; step++) {
+                sameCounts(x, y);
+                sameAnswers(x, y);
+                c.due("5 year()", x.year(), y.year());
+                c.due("5 rain(9)", x.rain(9), y.rain(9));
+            }
+        }
+    }
+
+    private static void sameCounts(ThatchLane x, ThatchLane y) {
+        for (int what = 0; what <= 8; what++) {
+            c.due("5 count(" + what + ")", x.count(what), y.count(what));
+        }
+        for (int house = 0; house <= 6; house++) {
+            for (int what = 0; what <= 6; what++) {
+                c.due("5 house(" + house + ", " + what + ")", x.house(house, what), y.house(house, what));
+            }
+        }
+    }
+
+    private static void sameAnswers(ThatchLane x, ThatchLane y) {
+        c.due("5 wet(20)", x.wet(20), y.wet(20));
+        c.due("5 wet(9)", x.wet(9), y.wet(9));
+        for (int what = 10; what <= 15; what++) {
+            c.due("5 twos(" + what + ")", x.twos(what), y.twos(what));
+        }
+        c.due("5 twos(0)", x.twos(0), y.twos(0));
+        for (int what = 0; what <= 1; what++) {
+            c.due("5 plan(4, 9, " + what + ")", x.plan(4, 9, what), y.plan(4, 9, what));
+            c.due("5 patch(15, 20, " + what + ")", x.patch(15, 20, what), y.patch(15, 20, what));
+            c.due("5 ages(60, 3, " + what + ")", x.ages(60, 3, what), y.ages(60, 3, what));
+        }
     }
 
     private static void sameTextAgain() {

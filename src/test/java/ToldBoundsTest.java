@@ -8,6 +8,7 @@ public final class ToldBoundsTest {
         imageOfNoLane();
         imageTheLatest();
         imageKeepsEach();
+        imageKeepsSeen();
         restoreNoneWasKept();
         restoreALaneWasReadSince();
         restoreAgainAndAgain();
@@ -97,6 +98,40 @@ public final class ToldBoundsTest {
         x.see(5, 9, 20);
         c.due("24 restore() again", x.restore(), 2);
         c.due("24 all again", x.digest(), y.digest());
+    }
+
+    // "SEEN": of which house, behind how many years, how much.
+    private static void imageKeepsSeen() {
+        ThatchLane x = Checks.laneOf("y00,y00");
+        x.see(0, 3, 6);
+        x.see(1, 9, 9);
+        x.image();
+        x.forget();
+        x.see(1, 1, 2);
+        x.see(0, 5, 0);
+        x.see(1, 2, 4);
+        c.due("24 restore()", x.restore(), 0);
+        c.due("24 2 were seen", x.count(7), 2);
+        c.due("24 of the first, 2 a year for 3", x.house(0, 5), 7);
+        c.due("24 of the second, 1 a year for 9", x.house(1, 5), 56);
+        x.forget();
+        x.image();
+        x.see(0, 3, 6);
+        x.restore();
+        c.due("24 nothing was seen", x.count(7), 0);
+        c.due("24 so all may be", x.house(0, 5), 1023);
+        for (int sight = 1; sight <= 6; sight++) {
+            x.see(sight % 2, sight, sight);
+        }
+        int first = x.house(0, 5);
+        int second = x.house(1, 5);
+        x.image();
+        x.forget();
+        x.restore();
+        c.due("24 6 were seen", x.count(7), 6);
+        c.due("24 6 were seen: full", x.see(0, 1, 1), Scenes.FULL);
+        c.due("24 6 were seen, of the first", x.house(0, 5), first);
+        c.due("24 6 were seen, of the second", x.house(1, 5), second);
     }
 
     // "STATE: none was kept"
@@ -277,6 +312,11 @@ public final class ToldBoundsTest {
         for (int many = 1; many <= 6; many++) {
             String text = "h93,w92,o91,y90,t94,h55".substring(0, 4 * many - 1);
             c.due("26 of " + many, Checks.laneOf(text).digest(), mixedOfAll(Checks.laneOf(text), ""));
+        }
+        // Of these nearly each number that digest() asks by answers otherwise by one more, and by one less.
+        String[] texts = {"t88,y44,h85,o99,y16", "t94,h47,y65,w69,o42", "t82,y73,h99,h79", "t24,y10,w80,w90"};
+        for (String text : texts) {
+            c.due("26 of " + text, Checks.laneOf(text).digest(), mixedOfAll(Checks.laneOf(text), ""));
         }
         ThatchLane x = Scenes.inYear(7, "t:20:9", "w:0:0", "y:19:9", "o:10:3");
         c.due("26 of 20 and 0", x.digest(), mixedOfAll(x, ""));

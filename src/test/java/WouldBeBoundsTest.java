@@ -214,8 +214,22 @@ public final class WouldBeBoundsTest {
             c.due("16 all alike, dry", x.plan(4, 5, 0), 0);
             c.due("16 all alike, reed", x.plan(4, 6, 1), 5 * many);
         }
+        // Nothing is told apart where all are wet and have no reed, whatever was planned ahead of that.
+        ThatchLane x = Checks.laneOf("o00,o00,o00,o00,o00,o00");
+        x.plan(4, 20, 0);
+        c.due("16 six bald ones, wet", x.plan(4, 20, 0), 6);
+        c.due("16 six bald ones, reed", x.plan(4, 20, 1), 0);
+        for (int what = 10; what <= 13; what++) {
+            c.due("16 six bald ones, whom " + what, x.plan(4, 20, what), 0);
+        }
+        x = Checks.laneOf("o10,o10,o10,o10,o10,o23");
+        c.due("16 five bald ones, and one that may keep 1", x.plan(1, 20, 10), 5);
+        c.due("16 its reed", x.plan(1, 20, 1), 1);
+        x.year();
+        c.due("16 then it may keep none: the first", x.plan(1, 20, 10), 0);
+        c.due("16 six bald ones then", x.plan(1, 20, 0), 6);
         // 3 and 3: the one now and the other later is as good as the other way about.
-        ThatchLane x = Checks.laneOf("h33,h33");
+        x = Checks.laneOf("h33,h33");
         c.due("16 the first now", x.plan(2, 20, 10), 0);
         c.due("16 the other then", x.plan(2, 20, 11), 1);
         // The last of six alone worries.
