@@ -170,7 +170,7 @@ final class Model {
         for (int worry = 0; worry <= 9; worry++) {
             boolean fits = true;
             for (Sight sight : seen) {
-                fits &= sight.house() != house || behind(house, worry, sight.year()) == sight.reed();
+                fits &= sight.house() != house || reedBehind(house, worry, sight.year()) == sight.reed();
             }
             if (fits) {
                 left.add(worry);
@@ -179,7 +179,7 @@ final class Model {
         return left;
     }
 
-    private int behind(int house, int worry, int years) {
+    int reedBehind(int house, int worry, int years) {
         House was = houses.get(house).worrying(worry);
         for (int k = 1; k <= years; k++) {
             was = was.later(year + k);
@@ -196,7 +196,7 @@ final class Model {
             for (int reed = 0; reed <= 20; reed++) {
                 int like = 0;
                 for (int worry : left) {
-                    like += behind(house, worry, years) == reed ? 1 : 0;
+                    like += reedBehind(house, worry, years) == reed ? 1 : 0;
                 }
                 worst = Math.max(worst, like);
             }

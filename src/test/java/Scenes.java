@@ -17,11 +17,7 @@ final class Scenes {
 
     /** Houses told as "kind:reed:worry", reed 0 to 20, none combed, when so many years (6 or 7) have gone by. */
     static ThatchLane inYear(int years, String... houses) {
-        StringBuilder text = new StringBuilder();
-        for (String house : houses) {
-            text.append(text.length() > 0 ? "," : "").append(seedling(numberIn(house, 1), years)).append('0');
-        }
-        ThatchLane x = Checks.laneOf(text.toString());
+        ThatchLane x = Checks.laneOf(textOf(years, houses));
         for (int year = 1; year <= years; year++) {
             x.year();
         }
@@ -34,6 +30,15 @@ final class Scenes {
         return x;
     }
 
+    /** The lane that grows to have as much reed as these in so many years; of which kind, with which worry, is left. */
+    static String textOf(int years, String... houses) {
+        StringBuilder text = new StringBuilder();
+        for (String house : houses) {
+            text.append(text.length() > 0 ? "," : "").append(seedling(numberIn(house, 1), years)).append('0');
+        }
+        return text.toString();
+    }
+
     /** The kind and reed that without worry comes to so much in so many years. */
     private static String seedling(int reed, int years) {
         if (reed <= 9) {
@@ -42,7 +47,7 @@ final class Scenes {
         return reed - years <= 9 ? "h" + (reed - years) : "y" + (reed - 2 * years);
     }
 
-    private static int numberIn(String house, int part) {
+    static int numberIn(String house, int part) {
         return Integer.parseInt(house.split(":")[part]);
     }
 
